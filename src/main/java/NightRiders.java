@@ -61,6 +61,22 @@ public final class NightRiders {
         boolean isOnDuty(int minute) {
             return dutyFrom <= minute && minute <= dutyTo;
         }
+
+        /** Makes the fewest minutes over any places of ways that are single roads as yet. */
+        void shortenWays() {
+            for (int over = 0; over < PLACES_MOST; over++) {
+                for (int from = 0; from < PLACES_MOST; from++) {
+                    int ahead = ways[from * PLACES_MOST + over];
+                    for (int to = 0; ahead != NONE && to < PLACES_MOST; to++) {
+                        int behind = ways[over * PLACES_MOST + to];
+                        int whole = ways[from * PLACES_MOST + to];
+                        if (behind != NONE && (whole == NONE || ahead + behind < whole)) {
+                            ways[from * PLACES_MOST + to] = ahead + behind;
+                        }
+                    }
+                }
+            }
+        }
     }
 
     /** A CALL of the document. */
@@ -138,17 +154,16 @@ public final class NightRiders {
         int kind = 0;
         int goal = 0;
 
-        /** Puts a leg behind the first ones, in place of what was there. */
-        void lay(int i, int rider, int from, int starting) {
+        /** Lets a rider start the leg i. */
+        void open(int i, int rider, int from, int starting) {
             if (i >= 0 && i < CHAIN_MOST) {
                 riders[i] = rider;
                 froms[i] = from;
                 starts[i] = starting;
-                length = i + 1;
             }
         }
 
-        /** Lets the leg i end, and be the last one. */
+        /** Lets the leg i end, as the last one. */
         void close(int i, int to, int ending) {
             if (i >= 0 && i < CHAIN_MOST) {
                 tos[i] = to;
@@ -175,6 +190,10 @@ public final class NightRiders {
                 }
             }
             return false;
+        }
+
+        int fromOf(int i) {
+            return i >= 0 && i < CHAIN_MOST ? froms[i] : NONE;
         }
 
         int lastEnd() {
@@ -298,19 +317,26 @@ public final class NightRiders {
         if (!isMinute(minute) || !isKind(kind)) {
             return NONE;
         }
-        return countOnDuty(minute, kind);
+        int counted = 0;
+        for (int n = 0; n < riderCount; n++) {
+            Rider known = riderAt(n);
+            if (known != null && known.carries(kind) && known.isOnDuty(minute)) {
+                counted++;
+            }
+        }
+        return counted;
     }
 
     public int bare(int minute, int kind) {
         if (!isMinute(minute) || !isKind(kind)) {
             return NONE;
         }
-        for (int m = minute; m < MINUTES; m++) {
-            if (countOnDuty(m, kind) == 0) {
-                return m;
-            }
+        int bareFrom = minute;
+        // Each turn passes the whole duty of one rider at least.
+        for (int turn = 0; turn < RIDERS_MOST; turn++) {
+            bareFrom = Math.max(bareFrom, 1 + lastOnDuty(bareFrom, kind));
         }
-        return NONE;
+        return isMinute(bareFrom) ? bareFrom : NONE;
     }
 
     // ---- calls
@@ -499,13 +525,7 @@ public final class NightRiders {
                 settled.ways[from * PLACES_MOST + to] = roadWithin(settled.area, from, to);
             }
         }
-        for (int over = 0; over < PLACES_MOST; over++) {
-            for (int from = 0; from < PLACES_MOST; from++) {
-                for (int to = 0; to < PLACES_MOST; to++) {
-                    shortenWay(settled.ways, from * PLACES_MOST + over, over * PLACES_MOST + to, from * PLACES_MOST + to);
-                }
-            }
-        }
+        settled.shortenWays();
     }
 
     private int roadWithin(int area, int from, int to) {
@@ -517,24 +537,6 @@ public final class NightRiders {
         }
         int minutes = roads[from * PLACES_MOST + to];
         return minutes == 0 ? NONE : minutes;
-    }
-
-    /** Takes the way of two parts in place of the whole one, if it is less. */
-    private static void shortenWay(int[] ways, int firstPart, int secondPart, int whole) {
-        if (!isWayIndex(firstPart) || !isWayIndex(secondPart) || !isWayIndex(whole)) {
-            return;
-        }
-        if (ways[firstPart] == NONE || ways[secondPart] == NONE) {
-            return;
-        }
-        int sum = ways[firstPart] + ways[secondPart];
-        if (ways[whole] == NONE || sum < ways[whole]) {
-            ways[whole] = sum;
-        }
-    }
-
-    private static boolean isWayIndex(int index) {
-        return index >= 0 && index < PLACES_MOST * PLACES_MOST;
     }
 
     /** When a rider would be at a place, if it went there at once; NONE, if it has no way. */
@@ -565,15 +567,16 @@ public final class NightRiders {
         }
     }
 
-    private int countOnDuty(int minute, int kind) {
-        int counted = 0;
+    /** The last minute of those on duty at a minute that may carry a kind; NONE, if nobody is. */
+    private int lastOnDuty(int minute, int kind) {
+        int last = NONE;
         for (int n = 0; n < riderCount; n++) {
             Rider known = riderAt(n);
             if (known != null && known.carries(kind) && known.isOnDuty(minute)) {
-                counted++;
+                last = Math.max(last, known.dutyTo);
             }
         }
-        return counted;
+        return last;
     }
 
     /** Puts the best chain into chosen, for a box that is at a place from a minute on; false, if there is none. */
@@ -597,11 +600,16 @@ public final class NightRiders {
             }
             int there = thereFrom(tried, from);
             int starts = Math.max(there, minute);
-            if (there != NONE && waitsUntil(i - 1, starts)) {
-                trial.lay(i, n, from, starts);
-                tryEnds(i, tried, from, starts);
+            if (there != NONE && !isTooLate(starts) && waitsUntil(i - 1, starts)) {
+                trial.open(i, n, from, starts);
+                tryEnds(i, tried, starts);
             }
         }
+    }
+
+    /** Whether a chain with a leg that starts at a minute ends behind the best one so far: each leg takes a minute at least. */
+    private boolean isTooLate(int starts) {
+        return chosen.length > 0 && starts >= chosen.lastEnd();
     }
 
     /** Whether the rider of the leg i, if there is such a leg, is still on duty at a minute. */
@@ -613,23 +621,34 @@ public final class NightRiders {
         return waiting != null && minute <= waiting.dutyTo;
     }
 
-    /** Tries each place where the leg i may end; each chain that is whole is kept, if it is the best so far. */
-    private void tryEnds(int i, Rider tried, int from, int starts) {
+    /** Tries each place where the leg i may end: first where the box goes to, as that makes many others too late. */
+    private void tryEnds(int i, Rider tried, int starts) {
+        tryEnd(i, tried, starts, trial.goal);
+        if (i + 1 >= CHAIN_MOST) {
+            return;
+        }
         for (int to = 0; to < placeCount; to++) {
-            int distance = wayOf(tried, from, to);
-            if (distance == NONE || starts + distance > tried.dutyTo || trial.comesFrom(to, i + 1)) {
-                continue;
-            }
-            trial.close(i, to, starts + distance);
-            if (to == trial.goal) {
-                keepIfBetter();
-            } else {
-                tryRiders(i + 1, to, starts + distance);
+            if (to != trial.goal) {
+                tryEnd(i, tried, starts, to);
             }
         }
     }
 
-    /** Riders and places are tried in their order, so of chains that are equal till there the first one is the best. */
+    /** Tries a place where the leg i may end; if the chain is whole then, it is kept, if it is the best so far. */
+    private void tryEnd(int i, Rider tried, int starts, int to) {
+        int distance = wayOf(tried, trial.fromOf(i), to);
+        if (distance == NONE || starts + distance > tried.dutyTo || trial.comesFrom(to, i + 1)) {
+            return;
+        }
+        trial.close(i, to, starts + distance);
+        if (to == trial.goal) {
+            keepIfBetter();
+        } else {
+            tryRiders(i + 1, to, starts + distance);
+        }
+    }
+
+    /** Chains of as many legs are tried in the order of their riders and places: of equal ones the first is the best. */
     private void keepIfBetter() {
         int end = trial.lastEnd();
         int least = chosen.lastEnd();

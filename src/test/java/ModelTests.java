@@ -480,7 +480,7 @@ public final class ModelTests {
         int boxes = Math.max(m.boxes.size(), 1) - 1;
         int box = dice.one(3) && m.last != null ? m.boxes.indexOf(m.last) : dice.around(0, boxes);
         String call;
-        switch (dice.below(20)) {
+        switch (dice.below(m.riders.size() > 4 ? 20 : 19)) {
             case 0:
                 call = "place()";
                 due(run, call, x.place(), m.place());
@@ -531,6 +531,12 @@ public final class ModelTests {
                 call = "hand(" + box + ", " + when + ")";
                 due(run, call, x.hand(box, when), m.hand(box, when));
                 break;
+            case 17:
+                // From one end to the other one, soon: most likely from hand to hand.
+                call = "call(0, 0, " + places + ", " + minute + ", 50)";
+                due(run, call, x.call(0, 0, places, minute, 50), m.call(0, 0, places, minute, 50));
+                due(run, "send behind " + call, x.send(m.boxes.size() - 1), m.send(m.boxes.size() - 1));
+                break;
             default:
                 call = fail(run, x, m, dice, box);
                 break;
@@ -572,19 +578,29 @@ public final class ModelTests {
         NightRiders x = new NightRiders();
         Model m = new Model(seen);
         int scale = dice.one(5) ? 8 : 1;
-        int places = 2 + dice.below(dice.one(10) ? 7 : 4);
+        // In a narrow run most riders know two places of a line alone, so that boxes go from hand to hand.
+        boolean narrow = !dice.one(4);
+        int places = narrow ? 3 + dice.below(2) : 2 + dice.below(dice.one(10) ? 7 : 4);
         for (int p = 0; p < places; p++) {
             due(run, "place()", x.place(), m.place());
             for (int q = 0; q < p; q++) {
                 int minutes = 10 * (1 + dice.below(4 * scale));
-                if (q == p - 1 || dice.one(3)) {
+                if (q == p - 1 || dice.one(narrow ? 12 : 3)) {
                     due(run, "road", x.road(q, p, minutes) ? 1 : 0, m.road(q, p, minutes) ? 1 : 0);
                 }
             }
         }
-        int riders = 1 + dice.below(5);
+        int riders = narrow ? 3 + dice.below(4) : 1 + dice.below(5);
         for (int r = 0; r < riders; r++) {
-            rider(run, x, m, dice, scale);
+            if (narrow && !dice.one(4)) {
+                int home = (run + r) % (places - 1);
+                int at = home + dice.below(2);
+                int from = dice.below(40);
+                int to = dice.one(2) ? 4319 : 100 + dice.below(200);
+                due(run, "rider", x.rider(at, 3 << home, from, to, 15), m.rider(at, 3 << home, from, to, 15));
+            } else {
+                rider(run, x, m, dice, scale);
+            }
         }
         for (int i = 0; i < CALLS_A_RUN && wrong < WRONG_MOST; i++) {
             sameState(run, step(run, x, m, dice, scale), x, m, dice);

@@ -240,6 +240,15 @@ public final class PromiseTests {
         due("one lost", x.count(4), 1);
         due("a lost one was sent", x.count(3), 3);
         due("a lost one came not", x.count(5), 1);
+        NightRiders y = line(2);
+        y.rider(0, 3, 0, 4319, 1);
+        y.rest(0);
+        y.call(0, 0, 1, 100, 10);
+        y.call(0, 1, 0, 101, 18);
+        y.send(0);
+        due("cold still, counted from ready on", y.count(5), 0);
+        y.send(1);
+        due("warm, counted from ready on", y.count(5), 1);
         due("count 6", x.count(6), -1);
         due("count -1", x.count(-1), -1);
         due("count least", x.count(LEAST), -1);
@@ -506,6 +515,19 @@ public final class PromiseTests {
         x.road(1, 3, 0);
         x.call(0, 0, 3, 0, 100);
         due("one rider twice", x.best(0), -1);
+        // The first rider would be the soonest one behind the second one too, who alone may go over place 4.
+        x = withPlaces(5);
+        x.road(0, 1, 10);
+        x.road(1, 4, 10);
+        x.road(4, 2, 10);
+        x.road(2, 3, 10);
+        x.road(0, 3, 500);
+        x.rider(3, 15, 0, 4319, 1);
+        x.rider(1, 22, 0, 4319, 1);
+        x.call(0, 0, 3, 500, 100);
+        due("one rider twice, though it would be sooner", x.best(0), 1000);
+        x.rider(3, 12, 0, 4319, 1);
+        due("a third rider", x.best(0), 540);
         // The box would have to come back to where it was, for a rider who is there later alone.
         x = withPlaces(3);
         x.road(0, 1, 10);
@@ -817,6 +839,7 @@ public final class PromiseTests {
         due("not the failed one", x.next(1, 2), -1);
         due("kind 4", x.next(4, 0), -1);
         due("kind -1", x.next(-1, 0), -1);
+        due("kind 4, place 4", x.next(4, 4), -1);
         due("place 4", x.next(0, 4), -1);
         due("place -1", x.next(0, -1), -1);
         due("place least", x.next(0, LEAST), -1);
