@@ -377,6 +377,12 @@ public final class PromiseTests {
         due("send", x.send(0), 20);
         due("failed", x.fail(0, 0, 10), 42);
         due("bare where the failed one was", x.bare(10, 0), 10);
+        NightRiders y = withPlaces(1);
+        for (int n = 5; n >= 0; n--) {
+            y.rider(0, 1, 10 * n, 10 * n + 9, 1);
+        }
+        due("over six duties", y.bare(0, 0), 60);
+        due("over the last one", y.bare(59, 0), 60);
     }
 
     private static void calls() {
@@ -528,6 +534,13 @@ public final class PromiseTests {
         due("one rider twice, though it would be sooner", x.best(0), 1000);
         x.rider(3, 12, 0, 4319, 1);
         due("a third rider", x.best(0), 540);
+        // The second rider could keep the box where it is, but that is no leg.
+        x = line(3);
+        x.rider(0, 3, 0, 20, 1);
+        x.rider(1, 2, 0, 4319, 1);
+        x.rider(1, 6, 50, 4319, 1);
+        x.call(0, 0, 2, 0, 100);
+        due("one place twice", x.best(0), -1);
         // The box would have to come back to where it was, for a rider who is there later alone.
         x = withPlaces(3);
         x.road(0, 1, 10);
