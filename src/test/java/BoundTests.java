@@ -427,6 +427,7 @@ public final class BoundTests {
         x.road(0, 7, 600);
         due("one road instead of seven", x.way(0, 0, 7), 600);
         due("half way round", x.way(0, 2, 6), 2400);
+        due("over the first and the last place", x.way(0, 1, 6), 1800);
         x = Probe.line(3);
         x.rider(0, 7, 0, 0, 0);
         x.road(0, 2, 21);
@@ -556,8 +557,8 @@ public final class BoundTests {
         due("the last minute is bare", x.bare(0, 0), 4319);
         due("the last minute itself", x.bare(4319, 0), 4319);
         x.rider(0, 1, 4319, 4319, 1);
-        probe.due("no minute is bare", x.bare(0, 0), -1);
-        probe.due("nor the last one", x.bare(4319, 0), -1);
+        due("no minute is bare", x.bare(0, 0), -1);
+        due("nor the last one", x.bare(4319, 0), -1);
         due("of another kind each is", x.bare(4319, 1), 4319);
         x = Probe.withPlaces(1);
         for (int n = 5; n >= 0; n--) {
