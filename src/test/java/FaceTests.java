@@ -33,6 +33,8 @@ public final class FaceTests {
         "int fail(int,int,int)",
         "int next(int,int)",
     };
+    // The calls that stand behind the line "---- calls", as the document says.
+    private static final String[] CALLS = {"call", "best", "send", "told", "leg", "hand", "fail", "next"};
     private static final String[] FORBIDDEN = {
         "->", "::", "\\bfinally\\b", "\\bcatch\\b", "\\bsynchronized\\b", "\\bassert\\b", "\\bpackage\\b", "\\w+Exact\\b",
         "\\bMap\\b", "\\bSet\\b", "\\bSystem\\.(?!arraycopy)", "\\bRandom\\b", "\\bThread\\b", "\\bprotected\\b",
@@ -42,9 +44,12 @@ public final class FaceTests {
 
     public static void main(String[] args) throws IOException {
         members();
+        none();
         fields();
         nestedClasses();
-        source(Files.readString(Path.of(SOURCE)));
+        String source = Files.readString(Path.of(SOURCE));
+        source(source);
+        order(source);
         System.out.println("FaceTests: " + wrong + " wrong");
         if (wrong != 0) {
             System.exit(1);
@@ -96,6 +101,18 @@ public final class FaceTests {
         return told.toString();
     }
 
+    private static void none() {
+        Set<String> found = new TreeSet<>();
+        for (Field f : NightRiders.class.getFields()) {
+            found.add(Modifier.toString(f.getModifiers()) + " " + f.getType() + " " + f.getName());
+        }
+        need(found.equals(Set.of("public static final int NONE")), "another public field: " + found);
+        need(NightRiders.NONE == -1, "NONE is " + NightRiders.NONE);
+        need(NightRiders.class.getInterfaces().length == 0, "it implements something");
+        need(NightRiders.class.getSuperclass() == Object.class, "it extends something");
+        need(NightRiders.class.getPackageName().isEmpty(), "it has a package");
+    }
+
     private static void fields() {
         int own = 0;
         for (Field f : NightRiders.class.getDeclaredFields()) {
@@ -115,6 +132,17 @@ public final class FaceTests {
             int modifiers = type.getModifiers();
             need(!Modifier.isPublic(modifiers) && Modifier.isStatic(modifiers), "public or not static: " + type);
             need(type.getDeclaredFields().length <= 20, "too many fields: " + type);
+            parameters(type);
+        }
+        parameters(NightRiders.class);
+    }
+
+    private static void parameters(Class<?> type) {
+        for (Method m : type.getDeclaredMethods()) {
+            need(m.getParameterCount() <= 7, "too many parameters: " + m);
+        }
+        for (Constructor<?> made : type.getDeclaredConstructors()) {
+            need(made.getParameterCount() <= 7, "too many parameters: " + made);
         }
     }
 
@@ -123,6 +151,20 @@ public final class FaceTests {
         for (String pattern : FORBIDDEN) {
             Matcher m = Pattern.compile(pattern).matcher(code);
             need(!m.find(), "the source holds what the rules forbid: " + pattern);
+        }
+    }
+
+    /** The methods stand in the document's order, and its line "---- calls" between those that it tells. */
+    private static void order(String text) {
+        int line = text.indexOf("---- calls");
+        need(line >= 0 && line == text.lastIndexOf("---- calls"), "not one line of ---- calls");
+        int last = 0;
+        for (String method : FACE) {
+            String name = method.replaceAll("^\\w+ (\\w+)\\(.*", "$1");
+            int at = text.indexOf("public " + method.substring(0, method.indexOf('(') + 1));
+            need(at > last, "not where the document has it: " + name);
+            need(at > line == Set.of(CALLS).contains(name), "not on its side of ---- calls: " + name);
+            last = at;
         }
     }
 }
